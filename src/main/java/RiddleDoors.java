@@ -348,7 +348,7 @@ public final class RiddleDoors {
                 numbers |= present.seen[h];
             }
         }
-        return walking.walkTo(numbers, place, crossing, looking.scratch);
+        return walking.walkTo(numbers, place, crossing, looking.scratchRow());
     }
 
     public int door(int i) throws NoSuchElementException {
@@ -726,7 +726,7 @@ public final class RiddleDoors {
                 int code = codes[i];
                 if (code < NOT) {
                     if (top < stack.length) {
-                        stack[top] = operand(code, house, numbers, life);
+                        stack[top] = code < A_NUMBER ? code : operand(code, house, numbers, life);
                         top++;
                     }
                 } else if (code == NOT) {
@@ -742,9 +742,6 @@ public final class RiddleDoors {
         }
 
         private int operand(int code, int house, int[] numbers, Life life) {
-            if (code < A_NUMBER) {
-                return code;
-            }
             if (code < SONS) {
                 int other = code - A_NUMBER;
                 return other < houses && other < numbers.length ? numbers[other] : 0;
@@ -1628,8 +1625,16 @@ public final class RiddleDoors {
         private int count = 0;
         // For each house and numbering: the numberings that have the same number there.
         private final long[] alike = new long[MOST_HOUSES * MOST_LOOKED_AT];
-        // The fewest looks; a walk, which never goes on at the same time, uses this row too.
-        final int[] scratch = new int[SCRATCH];
+        // The fewest looks; a walk, which never goes on at the same time, uses this row too. By far the longest row of
+        // all, it is made when it is first needed, and used again from then on.
+        private int[] scratch = null;
+
+        int[] scratchRow() {
+            if (scratch == null) {
+                scratch = new int[SCRATCH];
+            }
+            return scratch;
+        }
 
         void prepare(Search search, int howManyHouses) {
             houses = Math.min(howManyHouses, MOST_HOUSES);
@@ -1652,9 +1657,13 @@ public final class RiddleDoors {
         }
 
         int fewestLooks() {
+            if (count < 2) {
+                return 0;
+            }
+            int[] known = scratchRow();
             int used = (1 << houses) * MOST_LOOKED_AT;
-            for (int i = 0; i < used && i < SCRATCH; i++) {
-                scratch[i] = UNKNOWN;
+            for (int i = 0; i < used && i < known.length; i++) {
+                known[i] = UNKNOWN;
             }
             return fewestLooksAmong(allNumberings(), 0);
         }
@@ -1674,20 +1683,21 @@ public final class RiddleDoors {
             if ((set & set - 1) == 0) {
                 return 0;
             }
-            int known = looked * MOST_LOOKED_AT + Long.numberOfTrailingZeros(set);
-            if (known < 0 || known >= SCRATCH) {
+            int[] known = scratchRow();
+            int at = looked * MOST_LOOKED_AT + Long.numberOfTrailingZeros(set);
+            if (at < 0 || at >= known.length) {
                 return 0;
             }
-            if (scratch[known] == UNKNOWN) {
+            if (known[at] == UNKNOWN) {
                 int best = MOST_HOUSES;
                 for (int h = 0; h < houses; h++) {
                     if ((looked >> h & 1) == 0) {
                         best = Math.min(best, 1 + worstBehind(h, set, looked));
                     }
                 }
-                scratch[known] = best;
+                known[at] = best;
             }
-            return scratch[known];
+            return known[at];
         }
 
         /** Looks that are needed at worst when a door has been looked at. */
