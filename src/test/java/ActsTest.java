@@ -84,6 +84,7 @@ public final class ActsTest {
         }
         for (int i = 29; i >= 0; i--) {
             Check.due("undo", doors.undo(), i);
+            Check.due("what there was", doors.house(2, i % 2), 24 + i);
         }
         Check.due("no more", doors.undo(), RiddleDoors.NONE);
         Check.due("sons of the fifth", doors.house(2, 0), 24);

@@ -121,6 +121,10 @@ public final class NumberingsTest {
         knot("most 20;house;house;house;house says 0;", SPENT);
         knot("most 20;house says 0;house;house;house;", 1);
         knot("most 7;unlike;" + "house;".repeat(8), SPENT);
+        // 8421 tries by a, 421 by b, 21 by c, 1 by d (all less 1), and 4 for the numbering a b c d: 20000, and 20001
+        knot("most 20;house;house;house;house says of 0=3 and of 1=8 and of 2=10 and here=19;", RiddleDoors.NONE);
+        knot("most 20;house;house;house;house says of 0=3 and of 1=8 and of 2=10 and here=20;", SPENT);
+        knot("most 20;house;house;house;house says of 0=1 and of 1=1 and of 2=1 and here=1;", RiddleDoors.NONE);
         RiddleDoors doors = Check.street("most 5;house says here=1;house says here=0;");
         Check.due("knot", doors.knot(), 2);
         doors.mute(1, true);
@@ -145,6 +149,9 @@ public final class NumberingsTest {
         Check.due("two", Check.street("most 3;house says here=1;house says of 0=2;house says of 0=3 and before=1 and here=1;").liars(),
             3);
         Check.due("spent", Check.street("most 20;house;house;house;house says here=1 and of 0=0;").liars(), SPENT);
+        Check.due("a second numbering ends it",
+            Check.street("most 20;house;house;house;house says of 0=1 and of 1=1 and of 2=1 and here<3;").liars(),
+            RiddleDoors.NONE);
         Check.due("two found ahead of that", Check.street("most 20;house;house;house;house;").liars(), RiddleDoors.NONE);
     }
 
@@ -165,6 +172,9 @@ public final class NumberingsTest {
         Check.due("by unlike", Check.street("most 3;unlike;house says here=1;house says here=2;house;").proof(2), 3);
         Check.due("spent by the second question",
             Check.street("most 20;house;house;house;house says here=1 and of 2=1;").proof(3), SPENT);
+        Check.due("spent by no riddles", Check.street("most 7;unlike;" + "house;".repeat(8)).proof(0), SPENT);
+        Check.due("the first numbering ends the first question", Check.street("most 20;house;house;house;"
+            + "house says (of 0=1 or of 0=4) and of 1=1 and of 2=1 and here=1;").proof(0), RiddleDoors.NONE);
         // 4 + 16 + .. + 4096 tries of six houses, and 3 of the last one for each 4096: 17748; with 4 of it 21844.
         Check.due("what is barred is no try", Check.street("most 4;" + "house;".repeat(6) + "house says here=1;").proof(6), 64);
     }

@@ -110,6 +110,8 @@ public final class TextTest {
         fault("house says", 1, 10);
         fault("house says big;", 3, 11);
         fault("house says and;", 3, 11);
+        fault("house says z;", 3, 11);
+        fault("house says a;", 3, 11);
         fault("house says says;", 3, 11);
         fault("house says 1+not 1;", 3, 13);
         fault("house says 1<not 1;", 3, 13);
@@ -284,6 +286,8 @@ public final class TextTest {
         Check.throwsDue("behind what is written", Check.NSE, () -> doors.written(text.length() + 1));
         RiddleDoors again = Check.street(Check.written(doors));
         Check.same("written again", Check.written(again), Check.written(doors));
+        Check.same("nines and noughts", Check.written(Check.street("house says 9or 0and 9<0;")),
+            "most 9;house 0 0 says 9 or 0 and 9<0;");
         String longest = "house says 1" + "or1".repeat(162) + ";";
         Check.due("the longest", longest.length(), 499);
         Check.same("the longest written", Check.written(Check.street(longest)),

@@ -75,6 +75,8 @@ public final class TrialsTest {
         RiddleDoors spent = Check.street("most 20;house;house;house;house says here=1 and of 0=0;");
         Check.due("spent", spent.years(1, 1), SPENT);
         Check.due("not in no years", spent.years(1, 0), 0);
+        RiddleDoors two = Check.street("most 20;house;house;house;house says of 0=1 and of 1=1 and of 2=1 and here<3;");
+        Check.due("a second numbering ends it", two.years(1, 3), 0);
     }
 
     private static void newHouses() {
@@ -106,6 +108,8 @@ public final class TrialsTest {
         Check.due("the first of many", byProduct.build(1), 2003);
         RiddleDoors spent = Check.street("most 20;house;house;house;house says of 0=of 4+20;");
         Check.due("spent", spent.build(1), SPENT);
+        RiddleDoors two = Check.street("most 20;house says of 3 and of 0=1 and of 1=1 and of 2<3;house;house;");
+        Check.due("a second numbering ends it", two.build(0), 0);
         RiddleDoors full = Check.street("house;".repeat(8));
         Check.throwsDue("there are 8", Check.IAE, () -> full.build(0));
         Check.throwsDue("another what ahead of that", Check.NSE, () -> full.build(2));
@@ -122,6 +126,8 @@ public final class TrialsTest {
         Check.due("the first is 4 then", doors.changed(2, 1, 3, 1), 3);
         Check.due("nothing by the same", doors.changed(0, 0, 2, 0), 0);
         Check.due("nothing by debts that nobody asks", doors.changed(0, 1, 50, 1), 0);
+        Check.due("99 may be", doors.changed(2, 1, 99, 0), 3);
+        Check.due("0 may be", doors.changed(2, 1, 0, 0), 0);
         Check.due("nothing was done", doors.house(0, 0), 2);
         Check.due("no act", doors.count(3), 0);
         doors.become(0, 0, 9);
@@ -183,9 +189,17 @@ public final class TrialsTest {
             Check.due("no seeds: how many", doors.tried(law, 0, 3, 0), 0);
             Check.due("no seeds: the least", doors.tried(law, 0, 3, 1), RiddleDoors.NONE);
             Check.due("no seeds: spent", doors.tried(law, 0, 3, 2), 0);
-            oneByOne(law, 3, 40);
-            oneByOne(law, 8, 12);
+            oneByOne("most 3;", law, 3, 40);
+            oneByOne("most 9;unlike;", law, 8, 12);
+            oneByOne("most 3;", law, 4, 40);
         }
+        // Seed 11: 'here=1', 'not here=of 0', none, 'here=of 1+2': a knot of three
+        Check.due("a knot of three", doors.tried(2, 40, 4, 0), 1);
+        Check.due("its seed", doors.tried(2, 40, 4, 1), 11);
+        RiddleDoors forty = Check.street("most 8;");
+        Check.due("riddles of seed 11", forty.plant(11, 4), 3);
+        Check.due("7 - 2 by 8 numberings", forty.numberings(), 40);
+        Check.due("are not spent", forty.tried(1, 12, 4, 2), forty.tried(1, 11, 4, 2));
         // Of one house: seeds 0 and 1 draw 0 and 2: no riddle, three numberings, one look
         Check.due("one look of one house", doors.tried(1, 2, 1, 0), 2);
         Check.due("the least of these", doors.tried(1, 2, 1, 1), 0);
@@ -205,9 +219,9 @@ public final class TrialsTest {
     }
 
     /** A law tried on seeds answers as each of these, planted. */
-    private static void oneByOne(int law, int houses, int seeds) {
-        RiddleDoors doors = Check.street(houses == 8 ? "most 9;unlike;" : "most 3;");
-        RiddleDoors planted = Check.street(houses == 8 ? "most 9;unlike;" : "most 3;");
+    private static void oneByOne(String text, int law, int houses, int seeds) {
+        RiddleDoors doors = Check.street(text);
+        RiddleDoors planted = Check.street(text);
         int broken = 0;
         int least = RiddleDoors.NONE;
         int spent = 0;
