@@ -8,15 +8,25 @@ final class Check {
 
     private static int asked = 0;
     private static int wrong = 0;
+    private static String sentence = "";
 
     private Check() {
+    }
+
+    /** The document's words on which the answers behind this are due. */
+    static void says(String words) {
+        sentence = words;
+    }
+
+    private static void tellWrong(String call, String got, String want) {
+        wrong++;
+        System.out.println((sentence.isEmpty() ? "" : "\"" + sentence + "\": ") + call + " answered " + got + ", due is " + want);
     }
 
     static void due(String call, long got, long want) {
         asked++;
         if (got != want) {
-            wrong++;
-            System.out.println(call + " answered " + got + ", due is " + want);
+            tellWrong(call, Long.toString(got), Long.toString(want));
         }
     }
 
@@ -37,8 +47,7 @@ final class Check {
     static void same(String call, String got, String want) {
         asked++;
         if (!got.equals(want)) {
-            wrong++;
-            System.out.println(call + " answered " + got + ", due is " + want);
+            tellWrong(call, got, want);
         }
     }
 
@@ -61,6 +70,18 @@ final class Check {
     static int tell(RiddleDoors doors, String text) {
         feed(doors, text);
         return doors.street(text.length());
+    }
+
+    /** What street() and fault() answer to a text, on a new object. */
+    static void fault(String text, int kind, int place) {
+        RiddleDoors doors = new RiddleDoors();
+        due("street of " + text, tell(doors, text), kind);
+        due("fault of " + text, doors.fault(), place);
+        due("status 0 of " + text, doors.count(6), kind == 0 ? 0 : 1);
+    }
+
+    static void good(String text) {
+        fault(text, 0, RiddleDoors.NONE);
     }
 
     static RiddleDoors street(String text) {

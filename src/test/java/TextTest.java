@@ -53,110 +53,99 @@ public final class TextTest {
         Check.due("the tape is empty again", doors.count(5), 0);
     }
 
-    private static void fault(String text, int kind, int place) {
-        RiddleDoors doors = new RiddleDoors();
-        Check.due("street of " + text, Check.tell(doors, text), kind);
-        Check.due("fault of " + text, doors.fault(), place);
-        Check.due("status 0 of " + text, doors.count(6), kind == 0 ? 0 : 1);
-    }
-
-    private static void good(String text) {
-        fault(text, 0, RiddleDoors.NONE);
-    }
-
     private static void lines() {
-        good("");
-        good("most 2;");
-        good("most 20;");
-        good("most5;");
-        good("most 0020;");
-        good("\nmost\n5\n;\n");
-        fault("most 1;", 2, 5);
-        fault("most 21;", 2, 5);
-        fault("most 00020;", 2, 5);
-        fault("most;", 1, 4);
-        fault("most x;", 1, 5);
-        fault("most 5", 1, 6);
-        fault("most 5  ", 1, 8);
-        fault("most 5;most 6;", 4, 7);
-        fault("most 5; most 99999;", 4, 8);
-        fault("unlike;unlike;", 4, 7);
-        fault("unlike 1;", 1, 7);
-        fault("unlikely;", 1, 0);
-        fault("Most 5;", 1, 0);
-        fault("most\t5;", 1, 4);
-        fault("most \u00e9;", 1, 5);
-        fault("door;", 1, 0);
-        fault(";", 1, 0);
-        fault("5;", 1, 0);
-        fault("99999;", 1, 0);
-        fault("house;;", 1, 6);
-        good("house 99 99;");
-        good("house0 0;");
-        fault("house 100;", 2, 6);
-        fault("house 1 100;", 2, 8);
-        fault("house 12345;", 2, 6);
-        fault("house 1 2 3;", 1, 10);
-        fault("house 1 2 12345;", 1, 10);
-        fault("house -1;", 1, 6);
-        fault("house", 1, 5);
+        Check.good("");
+        Check.good("most 2;");
+        Check.good("most 20;");
+        Check.good("most5;");
+        Check.good("most 0020;");
+        Check.good("\nmost\n5\n;\n");
+        Check.fault("most 1;", 2, 5);
+        Check.fault("most 21;", 2, 5);
+        Check.fault("most 00020;", 2, 5);
+        Check.fault("most;", 1, 4);
+        Check.fault("most x;", 1, 5);
+        Check.fault("most 5", 1, 6);
+        Check.fault("most 5  ", 1, 8);
+        Check.fault("most 5;most 6;", 4, 7);
+        Check.fault("most 5; most 99999;", 4, 8);
+        Check.fault("unlike;unlike;", 4, 7);
+        Check.fault("unlike 1;", 1, 7);
+        Check.fault("unlikely;", 1, 0);
+        Check.fault("Most 5;", 1, 0);
+        Check.fault("most\t5;", 1, 4);
+        Check.fault("most \u00e9;", 1, 5);
+        Check.fault("door;", 1, 0);
+        Check.fault(";", 1, 0);
+        Check.fault("5;", 1, 0);
+        Check.fault("99999;", 1, 0);
+        Check.fault("house;;", 1, 6);
+        Check.good("house 99 99;");
+        Check.good("house0 0;");
+        Check.fault("house 100;", 2, 6);
+        Check.fault("house 1 100;", 2, 8);
+        Check.fault("house 12345;", 2, 6);
+        Check.fault("house 1 2 3;", 1, 10);
+        Check.fault("house 1 2 12345;", 1, 10);
+        Check.fault("house -1;", 1, 6);
+        Check.fault("house", 1, 5);
     }
 
     private static void expressions() {
-        good("house says here = 1 or\n here<2 and not after;");
-        good("house says 9999;");
-        good("house says of 7;");
-        fault("house says;", 1, 10);
-        fault("house says", 1, 10);
-        fault("house says big;", 3, 11);
-        fault("house says and;", 3, 11);
-        fault("house says z;", 3, 11);
-        fault("house says a;", 3, 11);
-        fault("house says says;", 3, 11);
-        fault("house says 1+not 1;", 3, 13);
-        fault("house says 1<not 1;", 3, 13);
-        fault("house says not or;", 3, 15);
-        fault("house says not;", 1, 14);
-        fault("house says +1;", 1, 11);
-        fault("house says ?;", 1, 11);
-        fault("house says 1 2;", 1, 13);
-        fault("house says 1 12345;", 1, 13);
-        fault("house says 12a;", 1, 13);
-        fault("house says here here;", 1, 16);
-        fault("house says 1<2<3;", 1, 14);
-        fault("house says 1=2<3;", 1, 14);
-        fault("house says (1;", 1, 13);
-        fault("house says ();", 1, 12);
-        fault("house says 1);", 1, 12);
-        fault("house says of;", 1, 13);
-        fault("house says of here;", 1, 14);
-        fault("house says of big;", 1, 14);
-        fault("house says of 8;", 2, 14);
-        fault("house says of 00007;", 2, 14);
-        fault("house says 10000;", 2, 11);
-        fault("house says 12345;", 2, 11);
+        Check.good("house says here = 1 or\n here<2 and not after;");
+        Check.good("house says 9999;");
+        Check.good("house says of 7;");
+        Check.fault("house says;", 1, 10);
+        Check.fault("house says", 1, 10);
+        Check.fault("house says big;", 3, 11);
+        Check.fault("house says and;", 3, 11);
+        Check.fault("house says z;", 3, 11);
+        Check.fault("house says a;", 3, 11);
+        Check.fault("house says says;", 3, 11);
+        Check.fault("house says 1+not 1;", 3, 13);
+        Check.fault("house says 1<not 1;", 3, 13);
+        Check.fault("house says not or;", 3, 15);
+        Check.fault("house says not;", 1, 14);
+        Check.fault("house says +1;", 1, 11);
+        Check.fault("house says ?;", 1, 11);
+        Check.fault("house says 1 2;", 1, 13);
+        Check.fault("house says 1 12345;", 1, 13);
+        Check.fault("house says 12a;", 1, 13);
+        Check.fault("house says here here;", 1, 16);
+        Check.fault("house says 1<2<3;", 1, 14);
+        Check.fault("house says 1=2<3;", 1, 14);
+        Check.fault("house says (1;", 1, 13);
+        Check.fault("house says ();", 1, 12);
+        Check.fault("house says 1);", 1, 12);
+        Check.fault("house says of;", 1, 13);
+        Check.fault("house says of here;", 1, 14);
+        Check.fault("house says of big;", 1, 14);
+        Check.fault("house says of 8;", 2, 14);
+        Check.fault("house says of 00007;", 2, 14);
+        Check.fault("house says 10000;", 2, 11);
+        Check.fault("house says 12345;", 2, 11);
     }
 
     private static void bounds() {
-        good("house says " + SIX_NOTS + "1;");
-        good("house says " + SIX_NOTS + "(" + SIX_NOTS + "1);");
-        good("house says " + SIX_NOTS + "1 and " + SIX_NOTS + "1;");
-        fault("house says " + SIX_NOTS + "not 1;", 2, 35);
-        fault("house says " + SIX_NOTS + "big;", 3, 35);
-        good("house says (((((1)))));");
-        good("house says (((((1)))))+(((((2)))));");
-        fault("house says ((((((1))))));", 2, 17);
-        fault("house says ((((((big", 2, 17);
-        fault("house says ((((((not 1", 2, 17);
-        fault("house says ((((((12345", 2, 17);
-        fault("house says (((((((", 2, 17);
-        fault("house says (((((()", 1, 17);
-        fault("house says ((((((;", 1, 17);
-        fault("house says ((((((", 1, 17);
-        good("house;".repeat(8));
-        fault("house;".repeat(9), 2, 48);
-        fault("house;".repeat(8) + "hous;", 1, 48);
-        good("unlike;" + "house;".repeat(8) + "most 3;");
+        Check.good("house says " + SIX_NOTS + "1;");
+        Check.good("house says " + SIX_NOTS + "(" + SIX_NOTS + "1);");
+        Check.good("house says " + SIX_NOTS + "1 and " + SIX_NOTS + "1;");
+        Check.fault("house says " + SIX_NOTS + "not 1;", 2, 35);
+        Check.fault("house says " + SIX_NOTS + "big;", 3, 35);
+        Check.good("house says (((((1)))));");
+        Check.good("house says (((((1)))))+(((((2)))));");
+        Check.fault("house says ((((((1))))));", 2, 17);
+        Check.fault("house says ((((((big", 2, 17);
+        Check.fault("house says ((((((not 1", 2, 17);
+        Check.fault("house says ((((((12345", 2, 17);
+        Check.fault("house says (((((((", 2, 17);
+        Check.fault("house says (((((()", 1, 17);
+        Check.fault("house says ((((((;", 1, 17);
+        Check.fault("house says ((((((", 1, 17);
+        Check.good("house;".repeat(8));
+        Check.fault("house;".repeat(9), 2, 48);
+        Check.fault("house;".repeat(8) + "hous;", 1, 48);
+        Check.good("unlike;" + "house;".repeat(8) + "most 3;");
     }
 
     private static void whatAFaultLeaves() {
