@@ -1,3 +1,5 @@
+import java.util.function.ToIntFunction;
+
 /** Each sentence of the document that names a boundary of promises 12 to 15: tries, numberings, what is spent. */
 public final class EdgesOfNumberingsTest {
     private static final int SPENT = -2;
@@ -163,29 +165,44 @@ public final class EdgesOfNumberingsTest {
         Check.says("-2: SPENT (as everywhere)");
         String[] spents = {"most 11;house;house;house;", "most 20;house;house;house;house says here=1 and of 0=0;"};
         for (String text : spents) {
-            RiddleDoors doors = Check.street(text);
-            Check.due("numberings", doors.numberings(), SPENT);
-            Check.due("tries", doors.tries(), SPENT);
-            Check.due("may", doors.may(2), SPENT);
-            Check.due("looks(0)", doors.looks(0), SPENT);
-            Check.due("looks(1)", doors.looks(1), SPENT);
-            Check.due("doors", doors.doors(), SPENT);
-            Check.due("hints(0)", doors.hints(0), SPENT);
-            Check.due("post", doors.post(0, 1), SPENT);
-            Check.due("feud", doors.feud(0, 1, 0), SPENT);
-            Check.due("feud, the first", doors.feud(0, 1, 1), SPENT);
-            Check.due("changed", doors.changed(0, 0, 1, 0), SPENT);
-            Check.due("changed, how far", doors.changed(0, 0, 1, 1), SPENT);
-            Check.due("walk", doors.walk(1, 1, 0), SPENT);
-            Check.due("walk of none", doors.walk(0, 1, 0), SPENT);
-            Check.due("left", doors.left(0, 1), SPENT);
+            RiddleDoors asked = Check.street(text);
+            Check.due("numberings", asked.numberings(), SPENT);
+            spentFor("numberings", text, asked, d -> d.numberings());
+            spentFor("tries", text, asked, d -> d.tries());
+            spentFor("may", text, asked, d -> d.may(2));
+            spentFor("looks(0)", text, asked, d -> d.looks(0));
+            spentFor("looks(1)", text, asked, d -> d.looks(1));
+            spentFor("doors", text, asked, d -> d.doors());
+            spentFor("hints(0)", text, asked, d -> d.hints(0));
+            spentFor("post", text, asked, d -> d.post(0, 1));
+            spentFor("feud", text, asked, d -> d.feud(0, 1, 0));
+            spentFor("feud, the first", text, asked, d -> d.feud(0, 1, 1));
+            spentFor("changed", text, asked, d -> d.changed(0, 0, 1, 0));
+            spentFor("changed, how far", text, asked, d -> d.changed(0, 0, 1, 1));
+            spentFor("walk", text, asked, d -> d.walk(1, 1, 0));
+            spentFor("walk of none", text, asked, d -> d.walk(0, 1, 0));
+            spentFor("left", text, asked, d -> d.left(0, 1));
             for (int what = 0; what < 3; what++) {
-                Check.due("look", doors.look(0, what), SPENT);
+                int one = what;
+                spentFor("look", text, asked, d -> d.look(0, one));
             }
             for (int i : new int[] {-1, 0, 1, 999, 1000, MIN, MAX}) {
-                Check.throwsDue("number(" + i + ", 0)", Check.NSE, () -> doors.number(i, 0));
+                Check.throwsDue("number(" + i + ", 0)", Check.NSE, () -> asked.number(i, 0));
+                Check.throwsDue("number(" + i + ", 0), first of all", Check.NSE, () -> Check.street(text).number(i, 0));
             }
         }
+    }
+
+    /** Asked of one of which others were asked ahead, and of a new one; the latter also behind a street that was not spent. */
+    private static void spentFor(String call, String text, RiddleDoors asked, ToIntFunction<RiddleDoors> question) {
+        Check.due(call, question.applyAsInt(asked), SPENT);
+        Check.due(call + ", first of all", question.applyAsInt(Check.street(text)), SPENT);
+        RiddleDoors other = Check.street("house says here=1;house;");
+        Check.due("nine", other.numberings(), 9);
+        Check.due("street", Check.tell(other, text), 0);
+        Check.due(call + ", behind another street", question.applyAsInt(other), SPENT);
+        Check.due("street", Check.tell(other, "most 3;house says here=1;house;house says here=1;"), 0);
+        Check.due(call + ", of one that is not", question.applyAsInt(other) == SPENT, false);
     }
 
     private static void spentBehindExceptions() {

@@ -255,6 +255,8 @@ public final class EdgesOfValuesTest {
             Check.throwsDue("holds(-1, " + row + ")", Check.NSE, () -> doors.holds(-1, row));
         }
         Check.throwsDue("no such house, and a good row", Check.NSE, () -> doors.holds(2, 33));
+        RiddleDoors without = Check.street("most 20;house;house;");
+        Check.throwsDue("a house that has none, and a bad row", Check.IAE, () -> without.holds(0, 1));
         RiddleDoors two = Check.street("most 2;house says here=2;");
         Check.due("2 of 2", two.holds(0, 2), 1);
         Check.throwsDue("3 of 2", Check.IAE, () -> two.holds(0, 3));
@@ -305,11 +307,19 @@ public final class EdgesOfValuesTest {
         Check.says("The i-th byte of what is WRITTEN; how many there are (i NONE). NoSuchElementException: there is none.");
         RiddleDoors none = new RiddleDoors();
         Check.due("how many", none.written(-1), 7);
+        Check.due("the last, first of all", new RiddleDoors().written(6), ';');
+        Check.throwsDue("behind it, first of all", Check.NSE, () -> new RiddleDoors().written(7));
         Check.due("the first", none.written(0), 'm');
         Check.due("the last", none.written(6), ';');
         for (int i : new int[] {7, -2, MIN, MAX}) {
             Check.throwsDue("written(" + i + ")", Check.NSE, () -> none.written(i));
         }
+        RiddleDoors growing = Check.street("house 9;");
+        Check.due("the last", growing.written(16), ';');
+        growing.become(0, 0, 10);
+        Check.due("the last then", growing.written(17), ';');
+        growing.undo();
+        Check.throwsDue("behind the last again", Check.NSE, () -> growing.written(17));
         // As much as a text can make of it: a blank on both sides of each word, and all houses.
         String riddle = "1" + "or1".repeat(143);
         RiddleDoors much = Check.street("unlike;" + "house;".repeat(7) + "house says " + riddle + ";most 20;");
