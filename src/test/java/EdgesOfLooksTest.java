@@ -224,6 +224,12 @@ public final class EdgesOfLooksTest {
         Check.due("none", thousand.left(3, 2), 0);
         Check.due("some", thousand.left(0, 1), 100);
         Check.due("without numberings", Check.street("house says 0;").left(0, 1), 0);
+        RiddleDoors fewer = Check.street("most 3;house;");
+        Check.due("2 of three", fewer.left(0, 2), 1);
+        fewer.letter(0, 1);
+        Check.due("1 of one", fewer.left(0, 1), 1);
+        Check.due("2 of one", fewer.left(0, 2), 0);
+        look(fewer, 0, 1, 1, 1);
     }
 
     private static void wrongLeft() {
